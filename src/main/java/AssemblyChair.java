@@ -256,7 +256,7 @@ public final class AssemblyChair {
     }
 
     private int ruleOfDebate(int kind) {
-        if (kind >= DROP && kind <= CLOSE && now.debate.isClosed()) {
+        if (kind >= DROP && kind <= CLOSE && now.debate.isClosed) {
             return 8;
         }
         boolean isMadeOnce = kind == DROP || kind == REFER || kind >= LIMIT && kind <= LAY;
@@ -321,7 +321,7 @@ public final class AssemblyChair {
 
     private boolean maySpeak(int delegate) {
         return now.isOpen && now.house.isPresent(delegate) && now.pendingQuestion() != null
-            && !now.debate.isClosed() && now.house.hasQuorum();
+            && !now.debate.isClosed && now.house.hasQuorum();
     }
 
     // ---- what is asked of motions and questions
@@ -470,7 +470,7 @@ public final class AssemblyChair {
             case 9: return now.shelf.sizeOf(WAITING);
             case 10: return now.shelf.busyCommittees();
             case 11: return now.pendingQuestion() == null ? NOTHING : now.debate.speechesLeft;
-            case 12: return bit(now.pendingQuestion() != null && now.debate.isClosed());
+            case 12: return bit(now.pendingQuestion() != null && now.debate.isClosed);
             case 13: return now.motionsMade;
             case 14: return now.ballots.adopted;
             case 15: return now.ballots.decided - now.ballots.adopted;
@@ -1120,33 +1120,33 @@ public final class AssemblyChair {
     private static final class Debate {
         /** What is left of a limit, NOTHING without one. */
         int speechesLeft = NOTHING;
-        private boolean wasClosed;
+        boolean isClosed;
         /** The set of kinds rejected since the question came up and a motion was adopted. */
         private int rejectedKinds;
 
         void become(Debate other) {
             speechesLeft = other.speechesLeft;
-            wasClosed = other.wasClosed;
+            isClosed = other.isClosed;
             rejectedKinds = other.rejectedKinds;
         }
 
         void startAnew() {
             speechesLeft = NOTHING;
-            wasClosed = false;
+            isClosed = false;
             rejectedKinds = 0;
         }
 
-        boolean isClosed() {
-            return wasClosed || speechesLeft == 0;
-        }
-
         void close() {
-            wasClosed = true;
+            isClosed = true;
         }
 
+        /** The last speech of a limit ends debate: a new limit alone does not open it again. */
         void useSpeech() {
             if (speechesLeft > 0) {
                 speechesLeft--;
+                if (speechesLeft == 0) {
+                    close();
+                }
             }
         }
 

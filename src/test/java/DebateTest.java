@@ -5,7 +5,8 @@ public final class DebateTest {
     public static void main(String[] args) {
         whoSpeaks();
         limits();
-        aNewLimitOpensDebate();
+        aNewLimitDoesNotOpenDebate();
+        theLastSpeechClosesDebate();
         closing();
         startsAnew();
         Checks.finish();
@@ -61,17 +62,55 @@ public final class DebateTest {
         Checks.due("none was used", chair.count(11), 0);
     }
 
-    /** Plainest reading: debate is closed while no speech is left, and not longer. */
-    private static void aNewLimitOpensDebate() {
-        AssemblyChair chair = Halls.withQuestion(1);
+    /** A meeting with a motion to limit debate on top and no speech left of an earlier limit. */
+    private static AssemblyChair withUsedUpLimit(int newLimit) {
+        AssemblyChair chair = Halls.withQuestion(1, 2);
         Halls.carry(chair, 5, 1);
-        Halls.move(chair, 5, 2);
+        Halls.move(chair, 5, newLimit);
         chair.speak(0);
+        return chair;
+    }
+
+    /** The end of debate stays until a question comes up or is taken up (issue 5). */
+    private static void aNewLimitDoesNotOpenDebate() {
+        AssemblyChair chair = withUsedUpLimit(2);
         Checks.due("closed", chair.count(12), 1);
         Halls.adopt(chair);
         Checks.due("two are left", chair.count(11), 2);
-        Checks.due("open", chair.count(12), 0);
-        Checks.due("a speech", chair.speak(0), 2);
+        Checks.due("closed all the same", chair.count(12), 1);
+        Checks.due("no speech", chair.speak(0), Halls.STATE);
+        Checks.due("none was used", chair.count(11), 2);
+        Checks.due("no motion of 1 to 6", chair.move(0, 6, 0, 0, 0), -108);
+        Checks.due("but that of 7", Halls.carry(chair, 7), 1);
+        Halls.carry(chair, 10);
+        isAnew("taken up after a used up limit", chair);
+        Checks.due("a speech then", chair.speak(0), 2);
+    }
+
+    private static void theLastSpeechClosesDebate() {
+        AssemblyChair rejected = withUsedUpLimit(2);
+        Halls.reject(rejected);
+        Checks.due("none is left", rejected.count(11), 0);
+        Checks.due("closed", rejected.count(12), 1);
+
+        AssemblyChair divided = withUsedUpLimit(2);
+        Halls.adopt(divided);
+        divided.divide(1);
+        Checks.due("closed after a division", divided.count(12), 1);
+        Halls.adopt(divided);
+        isAnew("next part after a used up limit", divided);
+
+        AssemblyChair restored = Halls.withQuestion(1);
+        Halls.carry(restored, 5, 1);
+        restored.image();
+        restored.speak(0);
+        restored.undo();
+        Checks.due("open again with the snapshot", restored.count(12), 0);
+        restored.speak(0);
+        Checks.due("closed again", restored.count(12), 1);
+        restored.image();
+        restored.undo();
+        Checks.due("closed in the snapshot", restored.count(12), 1);
     }
 
     private static void closing() {

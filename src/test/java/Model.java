@@ -111,10 +111,6 @@ final class Model {
         return s.items.get(s.stack.get(0)[5]);
     }
 
-    private boolean debateClosed() {
-        return s.closed || s.left == 0;
-    }
-
     private void log(int kind, int delegate, int number) {
         s.minutes.add(new int[] {s.minute, kind, delegate, number});
     }
@@ -163,7 +159,7 @@ final class Model {
         if (kind == 2 && degree == 2) return 7;
         boolean secondary = kind == 2 && degree == 1;
         if (kind >= 1 && kind <= 9 && top() != null && kind <= top()[0] && !secondary) return 6;
-        if (kind >= 1 && kind <= 6 && debateClosed()) return 8;
+        if (kind >= 1 && kind <= 6 && s.closed) return 8;
         if (List.of(1, 3, 5, 6, 7).contains(kind) && s.rejected.contains(kind)) return 9;
         return numbers(d, kind, a, b, c, secondary);
     }
@@ -363,10 +359,10 @@ final class Model {
 
     int speak(int d) {
         if (!delegateExists(d)) return NONE;
-        if (!s.open || !s.here.get(d) || !questionPending() || debateClosed() || !quorate()) {
+        if (!s.open || !s.here.get(d) || !questionPending() || s.closed || !quorate()) {
             return STATE;
         }
-        if (s.left > 0) s.left--;
+        if (s.left > 0 && --s.left == 0) s.closed = true;
         s.speeches.set(d, s.speeches.get(d) + 1);
         log(3, d, s.speeches.get(d));
         return s.speeches.get(d);
@@ -499,7 +495,7 @@ final class Model {
             .map(Parcel::number).distinct().count();
         int[] all = {s.minute, s.open ? 1 : 0, s.weights.size(), weigh(-1, true), weigh(-1, false),
             quorate() ? 1 : 0, s.items.size(), s.resolutions.size(), holding(3), holding(2), busy,
-            questionPending() ? s.left : NOTHING, questionPending() && debateClosed() ? 1 : 0,
+            questionPending() ? s.left : NOTHING, questionPending() && s.closed ? 1 : 0,
             s.made, adopted, s.votes.size() - adopted, pendingOnes, s.dropped, s.again};
         return what < 0 || what >= all.length ? NONE : all[what];
     }
