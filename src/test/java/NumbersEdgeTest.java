@@ -47,6 +47,8 @@ public final class NumbersEdgeTest {
         theMoverWasPresentThen();
         noMotionToReconsiderThatDecision();
         numbersOfPendingMotions();
+        noSuchPendingMotion();
+        theHighestStack();
         Checks.finish();
     }
 
@@ -406,5 +408,41 @@ public final class NumbersEdgeTest {
         Scenes.dueOf(moved, "pending 1 #", 2, 0, 2, 2, 50, 1);
         Scenes.dueOf(moved + Scenes.carried("2 2 0 99"), "pending 1 #", 2, 0, 2, 2, 99, 1);
         Scenes.dueOf(moved + Scenes.lost("2 2 0 99"), "pending 1 #", 2, 0, 2, 2, 50, 1);
+    }
+
+    /** Promise 15: "-1 for the number"; "NONE if there is no such motion or what is invalid". */
+    private static void noSuchPendingMotion() {
+        for (String what : new String[] {"0", "5", "-1", "6", "MIN", "MAX"}) {
+            Scenes.due(Scenes.ONE, "pending -1 " + what, 0);
+            Scenes.due(Q, "pending -1 " + what, 1);
+            Scenes.due(Scenes.ONE, "pending 0 " + what, Scenes.NONE);
+            Scenes.due(Q, "pending 1 " + what, Scenes.NONE);
+            Scenes.due(Q, "pending -2 " + what, Scenes.NONE);
+            Scenes.due(Q, "pending MIN " + what, Scenes.NONE);
+            Scenes.due(Q, "pending MAX " + what, Scenes.NONE);
+        }
+        for (String what : new String[] {"-1", "6", "MIN", "MAX"}) {
+            Scenes.due(Q, "pending 0 " + what, Scenes.NONE);
+        }
+    }
+
+    /** "above it, each motion has a higher kind than the one below", but for an amendment. */
+    private static void theHighestStack() {
+        StringBuilder stack = new StringBuilder(Q);
+        for (int kind = 1; kind <= 9; kind++) {
+            stack.append(Scenes.made(Scenes.possible(kind)));
+            stack.append(kind == 2 ? Scenes.made("2 2 0 51") : "");
+        }
+        String high = stack.toString();
+        Scenes.pendingDue(high, 0, 1, 2, 2, 3, 4, 5, 6, 7, 8, 9);
+        Scenes.due(high, "pending -1 0", 11);
+        Scenes.due(high, "pending 10 0", 9);
+        Scenes.due(high, "pending 11 0", Scenes.NONE);
+        Scenes.dueOf(high, "pending # 5", 0, 0, 1, 2, 0, 0, 0, 0, 0, 0, 0, -1);
+        Scenes.due(high, "draft 0", 51);
+        Scenes.due(high, "count 16", 11);
+        Scenes.pendingDue(high + Scenes.YES + "open; next;", 0, 1, 2, 2, 3, 4, 5, 6, 7, 8);
+        Scenes.pendingDue(high + Scenes.times(10, Scenes.AGAINST), 0);
+        Scenes.pendingDue(high + Scenes.times(11, Scenes.AGAINST));
     }
 }

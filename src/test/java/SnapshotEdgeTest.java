@@ -16,6 +16,7 @@ public final class SnapshotEdgeTest {
         debateAndRejections();
         whatWasPutAside();
         minutesAndDecisions();
+        whatOthersTookThePlaceOf();
         notTheRows();
         aFullMeeting();
         Checks.finish();
@@ -160,6 +161,31 @@ public final class SnapshotEdgeTest {
         Scenes.refused(after, "1 11 0 0 0", 10);
         Scenes.due(after, "replayed 0", 1);
         Scenes.due(after + Scenes.main(7) + "speak 1;", "entry 5 3", 1);
+    }
+
+    /** Numbers that others have taken since: a place, a resolution, those that won. */
+    private static void whatOthersTookThePlaceOf() {
+        String referred = Q + Scenes.carried("3 3") + "image; report 3;";
+        Scenes.due(referred + Scenes.carried("3 1") + "undo;", "question 0 1", 3);
+        Scenes.due(referred + Scenes.carried("4 77") + "undo;", "question 0 1", 3);
+        Scenes.due(referred + Scenes.carried("3 1") + "undo;", "report 1", Scenes.STATE);
+        Scenes.due(referred + Scenes.carried("3 1") + "undo;", "report 3", 0);
+        String postponed = Q + Scenes.carried("4 5") + "pass 5; image; next;" + Scenes.carried("4 9");
+        Scenes.due(postponed + "undo;", "question 0 1", 5);
+        Scenes.due(postponed + "undo;", "next", 0);
+        String resolved = Q + Scenes.YES + "image;" + Scenes.carried("11") + Scenes.carried("7")
+            + Scenes.main(80) + Scenes.YES;
+        Scenes.due(resolved, "resolution 0 -2", 1);
+        Scenes.due(resolved + "undo;", "resolution 0 -2", 0);
+        Scenes.due(resolved + "undo;", "resolution 0 0", 10);
+        Scenes.due(resolved + "undo;", "question 0 1", 0);
+        Scenes.due(resolved + "undo;", "replayed 0", 1);
+        String won = "delegate 1; delegate 1; delegate 1;" + Scenes.main(10) + "decide 3 4; image;"
+            + Scenes.main(20) + "decide 1 6; undo;";
+        Scenes.allowed(won, "0 11 0 0 0", 1);
+        Scenes.allowed(won, "1 11 0 0 0", 1);
+        Scenes.refused(won, "2 11 0 0 0", 10);
+        Scenes.due(won + "move 1 11 0 0 0; decide 3 0;", "question 0 0", 0);
     }
 
     /** "everything but itself and the rows". */
