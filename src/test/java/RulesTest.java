@@ -181,11 +181,6 @@ public final class RulesTest {
         Checks.due("a speech is left", Halls.rule(spoken, 1), 0);
         spoken.speak(0);
         Checks.due("none is left", Halls.rule(spoken, 1), 8);
-        AssemblyChair twice = Halls.withQuestion(1);
-        Halls.move(twice, 3, 1);
-        Halls.reject(twice);
-        Halls.carry(twice, 6);
-        Checks.due("8 is ahead of 9", Halls.rule(twice, 3, 1), 8);
     }
 
     private static void rule9() {
