@@ -27,16 +27,19 @@ public final class RandomRunsTest {
         int deepest = 0;
         int resolutions = 0;
         int lost = 0;
+        int late = 0;
         for (int run = 0; run < RUNS; run++) {
             RandomRunsTest test = new RandomRunsTest(run * 7919L + 1);
             test.compare(run);
             deepest = Math.max(deepest, test.deepest);
             resolutions = Math.max(resolutions, test.chair.count(7));
             lost += test.chair.entry(-1, 0) > 120 ? 1 : 0;
+            late += test.chair.count(0) == 9999 ? 1 : 0;
         }
         Checks.due("the runs go deep", deepest >= 7 ? 1 : 0, 1);
         Checks.due("some have resolutions", resolutions >= 5 ? 1 : 0, 1);
         Checks.due("some lose entries", lost > 0 && lost < RUNS ? 1 : 0, 1);
+        Checks.due("some reach the last minute", late > 0 && late < RUNS ? 1 : 0, 1);
         for (int run = 0; run < 60; run++) {
             new RandomRunsTest(run * 104729L + 5).errorsChangeNothing();
         }
@@ -238,7 +241,10 @@ public final class RandomRunsTest {
     }
 
     private void compare(int run) {
-        int delegates = 1 + draw(5);
+        int delegates = 1 + draw(draw(2) == 0 ? 5 : 12);
+        if (draw(4) == 0) {
+            beginLate();
+        }
         for (int step = 0; step < CALLS; step++) {
             int call = step < delegates ? 0 : pickCall();
             int[] arguments = arguments(call);
@@ -252,6 +258,14 @@ public final class RandomRunsTest {
             lookAround(run, step);
         }
         Checks.due("run " + run, 0, 0);
+    }
+
+    /** Begins so near the minute 9999 that it is reached. */
+    private void beginLate() {
+        for (int i = 0; i < 19; i++) {
+            Checks.due("a late beginning", chair.pass(500), model.pass(500));
+        }
+        Checks.due("a late beginning", chair.pass(350), model.pass(350));
     }
 
     /** A few questions after every call, as what is wrong may soon be overwritten. */
